@@ -83,7 +83,7 @@ public final class SipMeter {
     public int text() {
         tokens.takeApart(tape, taped);
         taped = 0;
-        if (!reader.read(tokens, tape, draft)) {
+        if (!reader.read(tokens, draft)) {
             return NONE;
         }
         Machine old = machine;
@@ -267,8 +267,14 @@ public final class SipMeter {
     // ---- over all inputs, measured ones
 
     public int over(boolean greatest) {
-        if (!ways.look(machine, trial)) {
+        int untried = ways.begin(machine);
+        if (untried > MOST_WAYS) {
             return NONE;
+        }
+        for (int way = 0; way < untried; way++) {
+            trial.go(machine, ways.tried, NONE);
+            ways.compare(trial.sipped, way == 0);
+            ways.turnOn(machine);
         }
         return ways.choose(greatest);
     }
@@ -388,6 +394,9 @@ public final class SipMeter {
 
         static final int LETTERS = 6;
         static final int DIGITS = 4;
+        // A NAME is kept as a number in this base, a being 1 and z 26: six letters go into an int.
+        static final int LETTER_BASE = 27;
+        static final int BEFORE_A = 96;
 
         // Each word takes six places, so that word w begins at place 6 * w.
         private static final String OWN_WORDS =
@@ -397,7 +406,7 @@ public final class SipMeter {
         final int[] kinds = new int[TAPE + 1];
         /** The first byte of each; of a BAD one the byte that is wrong. */
         final int[] places = new int[TAPE + 1];
-        /** Which OWN WORD, how many letters of a NAME, what NUMBER, which sign. */
+        /** Which OWN WORD, a NAME's letters as a number, what NUMBER, which sign. */
         final int[] worths = new int[TAPE + 1];
         private int count;
         private byte[] bytes;
@@ -463,7 +472,9 @@ public final class SipMeter {
 
         private int takeWord(int start) {
             int stop = start;
+            int code = 0;
             while (stop < length && stop <= start + LETTERS && isLetter(bytes[stop])) {
+                code = code * LETTER_BASE + bytes[stop] - BEFORE_A;
                 stop++;
             }
             if (stop - start > LETTERS) {
@@ -473,7 +484,7 @@ public final class SipMeter {
             if (word >= 0) {
                 return add(OWN, start, word, stop);
             }
-            return add(NAME, start, stop - start, stop);
+            return add(NAME, start, code, stop);
         }
 
         private int takeNumber(int start) {
@@ -529,8 +540,8 @@ public final class SipMeter {
         final int[] tails = new int[PARTS];
         final int[] least = new int[INPUTS];
         final int[] most = new int[INPUTS];
-        private final byte[] letters = new byte[NAMES * Tokens.LETTERS];
-        private final int[] sizes = new int[NAMES];
+        /** The NAMES of all kinds as numbers, 0 where there is none. */
+        private final int[] codes = new int[NAMES];
         final Program program = new Program();
 
         void clear() {
@@ -542,7 +553,7 @@ public final class SipMeter {
             Arrays.fill(rates, 0);
             Arrays.fill(least, 0);
             Arrays.fill(most, 0);
-            Arrays.fill(sizes, 0);
+            Arrays.fill(codes, 0);
             program.clear();
         }
 
@@ -551,22 +562,13 @@ public final class SipMeter {
         }
 
         /** The place of a NAME among all kinds, NONE if there is none such. */
-        int find(byte[] tape, int start, int size) {
+        int find(int code) {
             for (int name = 0; name < NAMES; name++) {
-                if (sizes[name] == size && isAt(name, tape, start)) {
+                if (codes[name] == code) {
                     return name;
                 }
             }
             return NONE;
-        }
-
-        private boolean isAt(int name, byte[] tape, int start) {
-            for (int i = 0; i < sizes[name]; i++) {
-                if (start + i >= tape.length || letters[name * Tokens.LETTERS + i] != tape[start + i]) {
-                    return false;
-                }
-            }
-            return true;
         }
 
         /** Which one of a kind the NAME at a place is, NONE if it is of another kind. */
@@ -576,22 +578,26 @@ public final class SipMeter {
         }
 
         /** Gives the next one of a kind its NAME; it is there from then on. */
-        void name(int kind, byte[] tape, int start, int size) {
-            if (isFull(kind) || size > Tokens.LETTERS || start + size > tape.length) {
-                return;
+        void name(int kind, int code) {
+            if (!isFull(kind)) {
+                codes[FIRST_NAME[kind] + counts[kind]] = code;
+                counts[kind]++;
             }
-            int name = FIRST_NAME[kind] + counts[kind];
-            System.arraycopy(tape, start, letters, name * Tokens.LETTERS, size);
-            sizes[name] = size;
-            counts[kind]++;
         }
 
         int letterOf(int kind, int which, int k) {
-            int name = FIRST_NAME[kind] + which;
-            if (k < 0 || k >= sizes[name]) {
+            int code = codes[FIRST_NAME[kind] + which];
+            int size = 0;
+            for (int rest = code; rest > 0 && size < Tokens.LETTERS; rest /= Tokens.LETTER_BASE) {
+                size++;
+            }
+            if (k < 0 || k >= size) {
                 return NONE;
             }
-            return letters[name * Tokens.LETTERS + k];
+            for (int behind = size - 1; behind > k; behind--) {
+                code /= Tokens.LETTER_BASE;
+            }
+            return code % Tokens.LETTER_BASE + Tokens.BEFORE_A;
         }
 
         int wakeCost(int part) {
@@ -635,8 +641,8 @@ public final class SipMeter {
         final int[] kinds = new int[LINES];
         /** The PART or VAR that a LINE is about. */
         final int[] abouts = new int[LINES];
-        final int[] codeFrom = new int[LINES];
-        final int[] codeTo = new int[LINES];
+        /** Where the SUM or TEST of a LINE begins; it goes on to where the next LINE's begins. */
+        final int[] codeFrom = new int[LINES + 1];
         /** The LINE that comes next (of a TEST: if it holds); count is the end. */
         final int[] yes = new int[LINES];
         /** The LINE that comes next if a TEST fails. */
@@ -660,7 +666,6 @@ public final class SipMeter {
             kinds[line] = kind;
             abouts[line] = 0;
             codeFrom[line] = size;
-            codeTo[line] = size;
             yes[line] = NONE;
             no[line] = NONE;
             siblings[line] = NONE;
@@ -679,6 +684,7 @@ public final class SipMeter {
 
         /** Turns first LINES of blocks and siblings into the LINES that come next. */
         void link() {
+            codeFrom[count] = size;
             for (int line = 0; line < count; line++) {
                 after[line] = behind(line);
                 boolean loops = kinds[line] == Tokens.WHILE;
@@ -751,16 +757,14 @@ public final class SipMeter {
         int faultKind = 0;
         int faultAt = NONE;
         private Tokens tokens;
-        private byte[] tape;
         private Machine machine;
         private Program program;
         /** The token that is looked at. */
         private int k;
         private int opened;
 
-        boolean read(Tokens row, byte[] bytes, Machine into) {
+        boolean read(Tokens row, Machine into) {
             tokens = row;
-            tape = bytes;
             machine = into;
             program = into.program;
             machine.clear();
@@ -851,10 +855,10 @@ public final class SipMeter {
             if (tokens.kinds[k] != Tokens.NAME) {
                 return refuse(WRONG);
             }
-            if (machine.find(tape, tokens.places[k], tokens.worths[k]) >= 0) {
+            if (machine.find(tokens.worths[k]) >= 0) {
                 return refuse(TWICE);
             }
-            machine.name(kind, tape, tokens.places[k], tokens.worths[k]);
+            machine.name(kind, tokens.worths[k]);
             return goOn();
         }
 
@@ -864,7 +868,7 @@ public final class SipMeter {
                 refuse(WRONG);
                 return NONE;
             }
-            int name = machine.find(tape, tokens.places[k], tokens.worths[k]);
+            int name = machine.find(tokens.worths[k]);
             int which = name < 0 ? NONE : machine.which(kind, name);
             if (which < 0) {
                 refuse(UNKNOWN);
@@ -993,19 +997,19 @@ public final class SipMeter {
         private boolean order(int line) {
             switch (program.kinds[line]) {
                 case Tokens.SET:
-                    return about(line, Machine.VAR) && takeSign('=') && sumOf(line) && takeSign(';');
+                    return about(line, Machine.VAR) && takeSign('=') && sum() && takeSign(';');
                 case Tokens.USE:
-                    return about(line, Machine.PART) && sumOf(line) && takeSign(';');
+                    return about(line, Machine.PART) && sum() && takeSign(';');
                 case Tokens.HOLD:
                 case Tokens.FREE:
                     return about(line, Machine.PART) && takeSign(';');
                 case Tokens.WAIT:
                 case Tokens.TOUCH:
-                    return sumOf(line) && takeSign(';');
+                    return sum() && takeSign(';');
                 case Tokens.IF:
-                    return testOf(line) && yesBlock(line) && noBlock(line);
+                    return test() && yesBlock(line) && noBlock(line);
                 default:
-                    return testOf(line) && yesBlock(line);
+                    return test() && yesBlock(line);
             }
         }
 
@@ -1013,18 +1017,6 @@ public final class SipMeter {
             int which = takeName(kind);
             program.abouts[line] = Math.max(which, 0);
             return which >= 0;
-        }
-
-        private boolean sumOf(int line) {
-            boolean fine = sum();
-            program.codeTo[line] = program.size;
-            return fine;
-        }
-
-        private boolean testOf(int line) {
-            boolean fine = test();
-            program.codeTo[line] = program.size;
-            return fine;
         }
 
         private boolean yesBlock(int line) {
@@ -1102,10 +1094,6 @@ public final class SipMeter {
                 program.emit(Program.HELD, Math.max(part, 0));
                 return part >= 0;
             }
-            return comparison();
-        }
-
-        private boolean comparison() {
             if (!sum()) {
                 return false;
             }
@@ -1164,7 +1152,7 @@ public final class SipMeter {
         }
 
         private boolean namedPiece() {
-            int name = machine.find(tape, tokens.places[k], tokens.worths[k]);
+            int name = machine.find(tokens.worths[k]);
             if (name >= 0 && machine.which(Machine.INPUT, name) >= 0) {
                 program.emit(Program.INPUT, machine.which(Machine.INPUT, name));
                 return goOn();
@@ -1425,7 +1413,7 @@ public final class SipMeter {
         private int worked(int line) {
             Program program = machine.program;
             int top = 0;
-            for (int i = program.codeFrom[line]; i < program.codeTo[line]; i++) {
+            for (int i = program.codeFrom[line]; i < program.codeFrom[line + 1]; i++) {
                 int op = program.ops[i];
                 if (op < Program.NOT) {
                     if (top >= STACK) {
@@ -1505,8 +1493,6 @@ public final class SipMeter {
         final int[] spentTicks = new int[PARTS * DOINGS];
         /** The LINE that used, held or freed a PART last. */
         private final int[] last = new int[PARTS];
-        /** The STRETCH that a PART is in, NONE if it is asleep. */
-        private final int[] running = new int[PARTS];
         /** The cover of the LINE that holds a PART. */
         private final int[] holding = new int[PARTS];
         /** What each LINE pays of the heart, of waking and of working. */
@@ -1524,7 +1510,6 @@ public final class SipMeter {
             Arrays.fill(spentTicks, 0);
             if (full) {
                 Arrays.fill(last, NONE);
-                Arrays.fill(running, NONE);
                 Arrays.fill(holding, NONE);
                 Arrays.fill(owed, 0);
                 Arrays.fill(owedAsLast, 0);
@@ -1551,9 +1536,7 @@ public final class SipMeter {
                 return;
             }
             last[part] = line;
-            if (running[part] >= 0) {
-                trail.join(running[part], line);
-            }
+            trail.join(part, line);
         }
 
         void note(int part, int doing, int from, int to) {
@@ -1564,31 +1547,22 @@ public final class SipMeter {
             if (!full) {
                 return;
             }
+            int line = last[part];
             if (doing == ASLEEP) {
                 fallAsleep(part);
-            } else if (last[part] >= 0) {
-                stayUp(part, doing, from, to);
-            }
-        }
-
-        private void stayUp(int part, int doing, int from, int to) {
-            if (running[part] < 0) {
-                running[part] = trail.open(part, from, last[part]);
-            }
-            trail.extend(running[part], to, doing == ON ? to - from : 0);
-            int sips = (to - from) * machine.rates[part * DOINGS + doing];
-            if (doing == ON) {
-                owedAsLast[last[part]] += sips;
-            } else {
-                owed[last[part]] += sips;
+            } else if (line >= 0) {
+                int sips = (to - from) * machine.rates[part * DOINGS + doing];
+                owedAsLast[line] += doing == ON ? sips : 0;
+                owed[line] += doing == ON ? 0 : sips;
+                trail.stayUp(part, line, from, to, doing == ON);
             }
         }
 
         // A STRETCH ends asleep only when a whole TAIL has gone by since the last LINE.
         void fallAsleep(int part) {
-            if (full && running[part] >= 0 && last[part] >= 0) {
+            if (full && trail.running[part] >= 0 && last[part] >= 0) {
                 wastedBy[last[part]] += machine.tails[part] * machine.rates[part * DOINGS + ON];
-                running[part] = NONE;
+                trail.running[part] = NONE;
             }
         }
 
@@ -1660,6 +1634,8 @@ public final class SipMeter {
         int[] to = new int[0];
         int[] onTicks = new int[0];
         long[] users = new long[0];
+        /** The STRETCH that a PART is in, NONE if it is asleep. */
+        final int[] running = new int[PARTS];
         int covers;
         int[] coverParts = new int[0];
         int[] coverLines = new int[0];
@@ -1669,6 +1645,7 @@ public final class SipMeter {
         void clear() {
             count = 0;
             covers = 0;
+            Arrays.fill(running, NONE);
         }
 
         // A LINE covers once at most, and each STRETCH begins with a cover: one room does for both.
@@ -1688,29 +1665,27 @@ public final class SipMeter {
             coverTo = Arrays.copyOf(coverTo, room);
         }
 
-        int open(int part, int tick, int line) {
-            if (count >= parts.length) {
-                return NONE;
+        /** A PART isn't asleep in these TICKS: its STRETCH goes on, or one begins behind a LINE. */
+        void stayUp(int part, int line, int start, int stop, boolean on) {
+            if (running[part] < 0) {
+                if (count >= parts.length) {
+                    return;
+                }
+                parts[count] = part;
+                from[count] = start;
+                onTicks[count] = 0;
+                users[count] = 1L << line;
+                running[part] = count;
+                count++;
             }
-            parts[count] = part;
-            from[count] = tick;
-            to[count] = tick;
-            onTicks[count] = 0;
-            users[count] = 1L << line;
-            count++;
-            return count - 1;
+            int place = running[part];
+            to[place] = stop;
+            onTicks[place] += on ? stop - start : 0;
         }
 
-        void extend(int place, int tick, int on) {
-            if (place >= 0 && place < count) {
-                to[place] = tick;
-                onTicks[place] += on;
-            }
-        }
-
-        void join(int place, int line) {
-            if (place >= 0 && place < count) {
-                users[place] |= 1L << line;
+        void join(int part, int line) {
+            if (running[part] >= 0) {
+                users[running[part]] |= 1L << line;
             }
         }
 
@@ -1859,7 +1834,7 @@ public final class SipMeter {
         private boolean choseGreatest;
         private int greatest;
         private int least;
-        private final int[] tried = new int[INPUTS];
+        final int[] tried = new int[INPUTS];
         private final int[] greatestAt = new int[INPUTS];
         private final int[] leastAt = new int[INPUTS];
 
@@ -1876,26 +1851,13 @@ public final class SipMeter {
             return many;
         }
 
-        /** Runs all ways, unless it was done for this text; false if there are too many. */
-        boolean look(Machine machine, Runner runner) {
-            if (looked) {
-                return true;
-            }
-            int many = count(machine);
-            if (many > MOST_WAYS) {
-                return false;
-            }
+        /** How many ways are to be tried: none, if the ones of this text were. */
+        int begin(Machine machine) {
             System.arraycopy(machine.least, 0, tried, 0, INPUTS);
-            for (int way = 0; way < many; way++) {
-                runner.go(machine, tried, NONE);
-                compare(runner.sipped, way == 0);
-                turnOn(machine);
-            }
-            looked = true;
-            return true;
+            return looked ? 0 : count(machine);
         }
 
-        private void compare(int sips, boolean first) {
+        void compare(int sips, boolean first) {
             if (first || sips > greatest) {
                 greatest = sips;
                 System.arraycopy(tried, 0, greatestAt, 0, INPUTS);
@@ -1906,7 +1868,7 @@ public final class SipMeter {
             }
         }
 
-        private void turnOn(Machine machine) {
+        void turnOn(Machine machine) {
             for (int i = machine.counts[Machine.INPUT] - 1; i >= 0; i--) {
                 if (tried[i] < machine.most[i]) {
                     tried[i]++;
@@ -1917,6 +1879,7 @@ public final class SipMeter {
         }
 
         int choose(boolean greater) {
+            looked = true;
             chosen = true;
             choseGreatest = greater;
             return greater ? greatest : least;
@@ -1965,10 +1928,10 @@ public final class SipMeter {
             for (int row = 0; row < rows; row++) {
                 apart[row] = sipped[row] - measured[row] - ownSips(machine, part, row);
             }
-            int best = Integer.MAX_VALUE;
+            int best = 0;
             for (int i = 0; i < GRID * GRID * GRID; i++) {
                 int sum = differences(part, i / (GRID * GRID), i / GRID % GRID, i % GRID);
-                if (sum < best) {
+                if (i == 0 || sum < best) {
                     best = sum;
                     found[0] = i / (GRID * GRID);
                     found[1] = i / GRID % GRID;
