@@ -104,7 +104,7 @@ public final class TextTest {
         Check.with("if[[[[[[[1<2]]]]]]]{}if[[[[[[[[all]]]]]]]]{}", 2);
         Check.with("if all{if all{if all{if all{if all{if all{if all{if all{wait 0;}}}}}}}}wait((1));", 10);
         Check.with("if all{" + "wait 1;".repeat(59) + "}else{}", 60);
-        Check.with("not".repeat(0) + "if " + "not ".repeat(220) + "all{}", 1);
+        Check.with("if " + "not ".repeat(220) + "all{}", 1);
         Check.with("wait " + "1+".repeat(400) + "1;", 1);
     }
 
@@ -122,7 +122,7 @@ public final class TextTest {
         String[] texts = {
             "@x", "@hea", "@7", "@;", "@}", "@{", "@#", "@Heart 2;", "@\u00e4", "@\0", "  \n@\t",
             "heart@", "heart  \n @", "heart 2@", "heart 2 @heart 3;", "heart@2;", "heart @;", "heart @a;", "heart 2@,",
-            "heart 1234@5;", "heart 0000@0", "abcdef@g", "heart 2 abcdef@g", "heart abcdef@ghi", "wait 1 abcdef@g;", "wait 12345@", "heart@\t2;",
+            "heart 1234@5;", "heart 0000@0", "abcdef@g", "heart 2 abcdef@g", "heart abcdef@ghi", "wait 1 abcdef@g;", "wait 1234@5", "heart@\t2;",
             "wait 1 1234@5;", "heart 9 0000@00;",
             "cache 1 1@;", "cache 1 1 1 @1;", "cache 1 @;",
             "part @heart", "part @1", "part@", "part a @wake", "part a sleep 1 @on", "part a sleep 1 wake 2 @on 3", "part a@1",
@@ -132,13 +132,13 @@ public final class TextTest {
             "wait @;", "wait 1@a;", "wait 1 @2;", "wait (1@;", "wait (@)", "wait 1+@;", "wait 1 @= 2;", "wait @-1;", "wait @heart;", "wait @[1];",
             "wait 1 + @all;", "wait @held;", "wait tick@1;",
             "@else {}", "if all {} else @if all {}", "if all {} else {} @else {}", "while all {} @else {}", "if all @wait 1;", "if all { wait 1; @",
-            "if all { wait 1; @]", "if @{", "if 1 @{ }", "if 1 < 2 @< 3 { }", "if 1 @+", "if (1 < 2@", "if 1 < @not", "if [ all @) { }", "if [ all @{",
-            "if all @or", "if not @{", "if all or@{}", "if all and @or", "if (1 @< 2) { }", "if [1] @", "if all @all {}", "if 1 @- 2 {}",
-            "if 1 @* all {}", "touch min @1;", "touch min(1@);", "touch max(1,2@,3);", "touch min(1, 2@;", "wait 1; @}", "while all { } @}",
+            "if all { wait 1; @]", "if @{", "if 1 @{ }", "if 1 < 2 @< 3 { }", "if 1 +@", "if (1 @< 2", "if 1 < @not all {}", "if [ all @) { }", "if [ all @{",
+            "if all or@", "if not @{", "if all or@{}", "if all and @or", "if (1 @< 2) { }", "if [1@]", "if all @all {}", "if 1 - 2 @{}",
+            "if 1 * @all {}", "touch min @1;", "touch min(1@);", "touch max(1,2@,3);", "touch min(1, 2@;", "wait 1; @}", "while all { } @}",
             "if all { @foo; }", "if all { @; }", "wait 1;@;",
         };
         for (String text : texts) {
-            fault(1, fixed(text));
+            fault(1, text);
         }
         fault(1, DECLARED + "set v @1;");
         fault(1, DECLARED + "set v = 1@");
@@ -154,28 +154,6 @@ public final class TextTest {
         fault(1, DECLARED + "if v @{}");
         fault(1, DECLARED + "wait v @n;");
         fault(1, DECLARED + "wait v@1;");
-    }
-
-    /** In some of the rows above the place that is meant is told here, as they'd be misread otherwise. */
-    private static String fixed(String text) {
-        switch (text) {
-            case "if 1 @+":
-                return "if 1 +@";
-            case "if (1 < 2@":
-                return "if (1 @< 2";
-            case "if all @or":
-                return "if all or@";
-            case "if 1 @- 2 {}":
-                return "if 1 - 2 @{}";
-            case "if 1 @* all {}":
-                return "if 1 * @all {}";
-            case "if [1] @":
-                return "if [1@]";
-            case "if 1 < @not":
-                return "if 1 < @not all {}";
-            default:
-                return text;
-        }
     }
 
     private static void faultsOfNames() {
@@ -253,7 +231,7 @@ public final class TextTest {
         fault(5, "if [[[[[[[[min@(1,2)<3]]]]]]]] {}");
         fault(5, "while all {".repeat(8) + "if all @{");
         fault(5, "while all {".repeat(8) + "wait @(");
-        fault(5, "while all {".repeat(5) + "if [[(@1".replace("@", "(@("));
+        fault(5, "while all {".repeat(5) + "if [[(@(1");
         fault(1, "wait ((((((((1 @(");
         fault(1, "while all {".repeat(8) + "@{");
     }
