@@ -1829,8 +1829,8 @@ public final class SipMeter {
 
     /** The greatest and the least that RUNS sip, over all INPUTS. */
     private static final class Ways {
+        /** All ways of this text were tried, and one was chosen. */
         private boolean looked;
-        private boolean chosen;
         private boolean choseGreatest;
         private int greatest;
         private int least;
@@ -1840,7 +1840,6 @@ public final class SipMeter {
 
         void clear() {
             looked = false;
-            chosen = false;
         }
 
         private static int count(Machine machine) {
@@ -1880,13 +1879,12 @@ public final class SipMeter {
 
         int choose(boolean greater) {
             looked = true;
-            chosen = true;
             choseGreatest = greater;
             return greater ? greatest : least;
         }
 
         int chosenInput(int input) {
-            if (!chosen) {
+            if (!looked) {
                 return NONE;
             }
             return choseGreatest ? greatestAt[input] : leastAt[input];
