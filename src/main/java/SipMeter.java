@@ -579,7 +579,7 @@ public final class SipMeter {
 
         /** Gives the next one of a kind its NAME; it is there from then on. */
         void name(int kind, int code) {
-            if (!isFull(kind)) {
+            if (counts[kind] < MOST[kind]) {
                 codes[FIRST_NAME[kind] + counts[kind]] = code;
                 counts[kind]++;
             }
@@ -851,17 +851,6 @@ public final class SipMeter {
             return takeOwn(word) ? takeNumber(0, most) : NONE;
         }
 
-        private boolean takeNewName(int kind) {
-            if (tokens.kinds[k] != Tokens.NAME) {
-                return refuse(WRONG);
-            }
-            if (machine.find(tokens.worths[k]) >= 0) {
-                return refuse(TWICE);
-            }
-            machine.name(kind, tokens.worths[k]);
-            return goOn();
-        }
-
         /** Which one of a kind is named here, NONE with a FAULT. */
         private int takeName(int kind) {
             if (tokens.kinds[k] != Tokens.NAME) {
@@ -924,7 +913,14 @@ public final class SipMeter {
                 return refuse(TOO_MANY);
             }
             goOn();
-            return takeNewName(kind);
+            if (tokens.kinds[k] != Tokens.NAME) {
+                return refuse(WRONG);
+            }
+            if (machine.find(tokens.worths[k]) >= 0) {
+                return refuse(TWICE);
+            }
+            machine.name(kind, tokens.worths[k]);
+            return goOn();
         }
 
         private boolean part() {
@@ -1352,6 +1348,7 @@ public final class SipMeter {
             if (outcome != WHOLE && now == start) {
                 return;
             }
+            settle(part, start);
             bookBusy(line, part, start, from);
             book.workFor(part, line, from, now);
             // Cut off amid its work it isn't asleep, though the run goes on no more.
@@ -1367,6 +1364,7 @@ public final class SipMeter {
             if (outcome != WHOLE && now == start) {
                 return;
             }
+            settle(part, start);
             bookBusy(line, part, start, now);
             book.holdFor(part, line, now);
             if (outcome == WHOLE) {
@@ -1377,7 +1375,6 @@ public final class SipMeter {
         }
 
         private void bookBusy(int line, int part, int start, int from) {
-            settle(part, start);
             book.act(part, line);
             book.note(part, WAKING, start, from);
             book.note(part, WORKING, from, now);
