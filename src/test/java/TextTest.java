@@ -108,16 +108,6 @@ public final class TextTest {
         Check.with("wait " + "1+".repeat(400) + "1;", 1);
     }
 
-    /** A text with a mark where its FAULT is. */
-    private static void fault(int kind, String marked) {
-        int place = marked.indexOf('@');
-        String text = marked.replace("@", "");
-        SipMeter x = new SipMeter();
-        Check.due("text() of " + marked, Check.text(x, text), -1);
-        Check.due("fault(0) of " + marked, x.fault(0), kind);
-        Check.due("fault(1) of " + marked, x.fault(1), place);
-    }
-
     private static void faultOne() {
         String[] texts = {
             "@x", "@hea", "@7", "@;", "@}", "@{", "@#", "@Heart 2;", "@\u00e4", "@\0", "  \n@\t",
@@ -138,64 +128,64 @@ public final class TextTest {
             "if all { @foo; }", "if all { @; }", "wait 1;@;",
         };
         for (String text : texts) {
-            fault(1, text);
+            Check.refused(1, text);
         }
-        fault(1, DECLARED + "set v @1;");
-        fault(1, DECLARED + "set v = 1@");
-        fault(1, DECLARED + "set @tick = 1;");
-        fault(1, DECLARED + "set @1 = 1;");
-        fault(1, DECLARED + "use p@;");
-        fault(1, DECLARED + "use p@1;");
-        fault(1, DECLARED + "use @all 1;");
-        fault(1, DECLARED + "hold p @1;");
-        fault(1, DECLARED + "free @(p);");
-        fault(1, DECLARED + "if held @max {}");
-        fault(1, DECLARED + "if held p @< 1 {}");
-        fault(1, DECLARED + "if v @{}");
-        fault(1, DECLARED + "wait v @n;");
-        fault(1, DECLARED + "wait v@1;");
+        Check.refused(1, DECLARED + "set v @1;");
+        Check.refused(1, DECLARED + "set v = 1@");
+        Check.refused(1, DECLARED + "set @tick = 1;");
+        Check.refused(1, DECLARED + "set @1 = 1;");
+        Check.refused(1, DECLARED + "use p@;");
+        Check.refused(1, DECLARED + "use p@1;");
+        Check.refused(1, DECLARED + "use @all 1;");
+        Check.refused(1, DECLARED + "hold p @1;");
+        Check.refused(1, DECLARED + "free @(p);");
+        Check.refused(1, DECLARED + "if held @max {}");
+        Check.refused(1, DECLARED + "if held p @< 1 {}");
+        Check.refused(1, DECLARED + "if v @{}");
+        Check.refused(1, DECLARED + "wait v @n;");
+        Check.refused(1, DECLARED + "wait v@1;");
     }
 
     private static void faultsOfNames() {
-        fault(2, "var a;var @a;");
-        fault(2, DECLARED + "var @n");
-        fault(2, DECLARED + "input @p 5 1;");
-        fault(2, DECLARED + "part @v");
-        fault(2, DECLARED + "part @p");
-        fault(3, "use @p 1;");
-        fault(3, "set @abcdef = 1;");
-        fault(3, DECLARED + "set @n = 1;");
-        fault(3, DECLARED + "set @p = 1;");
-        fault(3, DECLARED + "use @v 1;");
-        fault(3, DECLARED + "hold @n;");
-        fault(3, DECLARED + "free @pp;");
-        fault(3, DECLARED + "wait @p;");
-        fault(3, DECLARED + "wait 1 + @vv");
-        fault(3, DECLARED + "if held @v {}");
-        fault(3, DECLARED + "if not [ @w < 1 ] {}");
-        fault(3, DECLARED + "set v = min(1, @x1");
-        fault(3, "use @b2;");
+        Check.refused(2, "var a;var @a;");
+        Check.refused(2, DECLARED + "var @n");
+        Check.refused(2, DECLARED + "input @p 5 1;");
+        Check.refused(2, DECLARED + "part @v");
+        Check.refused(2, DECLARED + "part @p");
+        Check.refused(3, "use @p 1;");
+        Check.refused(3, "set @abcdef = 1;");
+        Check.refused(3, DECLARED + "set @n = 1;");
+        Check.refused(3, DECLARED + "set @p = 1;");
+        Check.refused(3, DECLARED + "use @v 1;");
+        Check.refused(3, DECLARED + "hold @n;");
+        Check.refused(3, DECLARED + "free @pp;");
+        Check.refused(3, DECLARED + "wait @p;");
+        Check.refused(3, DECLARED + "wait 1 + @vv");
+        Check.refused(3, DECLARED + "if held @v {}");
+        Check.refused(3, DECLARED + "if not [ @w < 1 ] {}");
+        Check.refused(3, DECLARED + "set v = min(1, @x1");
+        Check.refused(3, "use @b2;");
     }
 
     private static void faultsOfNumbers() {
-        fault(4, "heart @1000;");
-        fault(4, "heart @9999");
-        fault(4, "cache @0 1 1;");
-        fault(4, "cache @9 1 1;");
-        fault(4, "cache 1 @0 1;");
-        fault(4, "cache 8 @9 1;");
-        fault(4, "cache 8 8 @21;");
-        fault(4, "part a sleep @1000 wake");
-        fault(4, "part a sleep 999 wake @21 0");
-        fault(4, "part a sleep 999 wake 20 @1000");
-        fault(4, "part a sleep 999 wake 20 999 on @1000");
-        fault(4, "part a sleep 999 wake 20 999 on 999 work @1000");
-        fault(4, "part a sleep 999 wake 20 999 on 999 work 999 tail @51;");
-        fault(4, "input n @100 100;");
-        fault(4, "input n 99 @100;");
-        fault(4, "input n 5 @4;");
-        fault(4, "wait @1000;");
-        fault(4, "if 1 < @1000a");
+        Check.refused(4, "heart @1000;");
+        Check.refused(4, "heart @9999");
+        Check.refused(4, "cache @0 1 1;");
+        Check.refused(4, "cache @9 1 1;");
+        Check.refused(4, "cache 1 @0 1;");
+        Check.refused(4, "cache 8 @9 1;");
+        Check.refused(4, "cache 8 8 @21;");
+        Check.refused(4, "part a sleep @1000 wake");
+        Check.refused(4, "part a sleep 999 wake @21 0");
+        Check.refused(4, "part a sleep 999 wake 20 @1000");
+        Check.refused(4, "part a sleep 999 wake 20 999 on @1000");
+        Check.refused(4, "part a sleep 999 wake 20 999 on 999 work @1000");
+        Check.refused(4, "part a sleep 999 wake 20 999 on 999 work 999 tail @51;");
+        Check.refused(4, "input n @100 100;");
+        Check.refused(4, "input n 99 @100;");
+        Check.refused(4, "input n 5 @4;");
+        Check.refused(4, "wait @1000;");
+        Check.refused(4, "if 1 < @1000a");
     }
 
     private static void faultsOfMany() {
@@ -204,46 +194,46 @@ public final class TextTest {
             parts.append("part ").append(c).append(PART);
         }
         Check.with(parts.toString(), 0);
-        fault(5, parts + "@part g" + PART);
-        fault(5, parts + " @part a");
-        fault(5, parts + "@part");
-        fault(1, parts + "heart 1 @part");
+        Check.refused(5, parts + "@part g" + PART);
+        Check.refused(5, parts + " @part a");
+        Check.refused(5, parts + "@part");
+        Check.refused(1, parts + "heart 1 @part");
         String inputs = "input a 0 1;input b 0 1;input c 0 1;";
         Check.with(inputs, 0);
-        fault(5, inputs + "@input d 0 1;");
+        Check.refused(5, inputs + "@input d 0 1;");
         String vars = "var a;var b;var c;var d;var e;var f;";
         Check.with(vars + inputs.replace("put ", "put i"), 0);
-        fault(5, vars + "@var g;");
-        fault(5, vars + "\n@var 7;");
+        Check.refused(5, vars + "@var g;");
+        Check.refused(5, vars + "\n@var 7;");
         String lines = "wait 0;".repeat(60);
         Check.with(lines, 60);
         for (String word : new String[] {"set", "use", "hold", "free", "wait", "touch", "if", "while"}) {
-            fault(5, lines + "@" + word + " x");
+            Check.refused(5, lines + "@" + word + " x");
         }
-        fault(1, lines + "@else");
-        fault(1, lines + "@var");
-        fault(1, lines + "@}");
-        fault(1, lines + "@foo");
-        fault(1, lines + "setset@s");
-        fault(5, "if all{" + "wait 0;".repeat(59) + "@wait 0;}");
-        fault(5, "wait ((((((((@(1)))))))));");
-        fault(5, "if [[[[[[[[@[all]]]]]]]]] {}");
-        fault(5, "if [[[[[[[[min@(1,2)<3]]]]]]]] {}");
-        fault(5, "while all {".repeat(8) + "if all @{");
-        fault(5, "while all {".repeat(8) + "wait @(");
-        fault(5, "while all {".repeat(5) + "if [[(@(1");
-        fault(1, "wait ((((((((1 @(");
-        fault(1, "while all {".repeat(8) + "@{");
+        Check.refused(1, lines + "@else");
+        Check.refused(1, lines + "@var");
+        Check.refused(1, lines + "@}");
+        Check.refused(1, lines + "@foo");
+        Check.refused(1, lines + "setset@s");
+        Check.refused(5, "if all{" + "wait 0;".repeat(59) + "@wait 0;}");
+        Check.refused(5, "wait ((((((((@(1)))))))));");
+        Check.refused(5, "if [[[[[[[[@[all]]]]]]]]] {}");
+        Check.refused(5, "if [[[[[[[[min@(1,2)<3]]]]]]]] {}");
+        Check.refused(5, "while all {".repeat(8) + "if all @{");
+        Check.refused(5, "while all {".repeat(8) + "wait @(");
+        Check.refused(5, "while all {".repeat(5) + "if [[(@(1");
+        Check.refused(1, "wait ((((((((1 @(");
+        Check.refused(1, "while all {".repeat(8) + "@{");
     }
 
     private static void firstAlongTheText() {
-        fault(4, "heart @1000 x");
-        fault(2, "var a;var @a b");
-        fault(3, "use @p#");
-        fault(1, "heart 1 @# var a; var a;");
-        fault(4, "input n 5 @4x");
-        fault(4, "wait @1000x");
-        fault(1, "wait 100@x");
+        Check.refused(4, "heart @1000 x");
+        Check.refused(2, "var a;var @a b");
+        Check.refused(3, "use @p#");
+        Check.refused(1, "heart 1 @# var a; var a;");
+        Check.refused(4, "input n 5 @4x");
+        Check.refused(4, "wait @1000x");
+        Check.refused(1, "wait 100@x");
     }
 
     private static void whatStays() {

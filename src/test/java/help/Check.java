@@ -4,6 +4,7 @@ import java.nio.charset.StandardCharsets;
 final class Check {
     private static int wrong = 0;
     private static int asked = 0;
+    private static int edges = 0;
 
     private Check() {
     }
@@ -28,7 +29,8 @@ final class Check {
 
     /** Ends the test: exit code 1 if an answer was not as due. */
     static void finish(String test) {
-        System.out.println(test + ": " + asked + " answers, " + wrong + " not as due");
+        String many = edges > 0 ? ", " + edges + " edges" : "";
+        System.out.println(test + ": " + asked + " answers" + many + ", " + wrong + " not as due");
         if (wrong != 0) {
             System.exit(1);
         }
@@ -54,6 +56,25 @@ final class Check {
     static int text(SipMeter x, String text) {
         lay(x, text);
         return x.text();
+    }
+
+    /** One boundary case, a test of its own: its name is told if it fails. */
+    static void edge(String name, Runnable test) {
+        int before = wrong;
+        test.run();
+        edges++;
+        if (wrong != before) {
+            System.out.println("FAILED EDGE: " + name);
+        }
+    }
+
+    /** A text with the mark @ where its FAULT is. */
+    static void refused(int kind, String marked) {
+        int place = marked.indexOf('@');
+        SipMeter x = new SipMeter();
+        due("text() of " + marked, text(x, marked.replace("@", "")), -1);
+        due("fault(0) of " + marked, x.fault(0), kind);
+        due("fault(1) of " + marked, x.fault(1), place);
     }
 
     /** A new object whose text is this one; it must be without a fault. */
