@@ -137,6 +137,12 @@ public final class AskEdgesTest {
 
     private static void likeOnes() {
         Check.edge("III: of like ones the least sum", () -> together(PART, 10 + 9, row(0, 0), ask(7, 1, 5), ask(7, 1, 5)));
+        Check.edge("III: of like ones the least sum, though its first ask comes later", () -> {
+            // TICK 11 is bridged by the first 1 later or by the second 3 later
+            String part = "part a sleep 0 wake 1 9 on 2 work 0 tail 0;";
+            together(part, 9 + 2 * 8, row(1, 0, 0, 0), ask(10, 1, 1), ask(8, 1, 5), ask(5, 6, 0), ask(12, 1, 0));
+            together(part, 9 + 2 * 8, row(0, 1, 0, 0), ask(8, 1, 5), ask(10, 1, 1), ask(5, 6, 0), ask(12, 1, 0));
+        });
         Check.edge("III: of like sums the first ask's lesser first", () -> {
             // one of the two must come in TICK 1, so that all three are side by side
             String part = "part a sleep 0 wake 1 9 on 0 work 0 tail 0;";
@@ -166,6 +172,12 @@ public final class AskEdgesTest {
             asked(x, ask(0, 1, 0), ask(9, 1, 0));
             Check.due("a", x.together(0), 20 + 18);
             Check.due("b", x.together(1), 2);
+        });
+        Check.edge("promise 26: by the PART's own WAKE, ON and TAIL", () -> {
+            SipMeter x = Check.with(PART + "part b sleep 0 wake 3 100 on 7 work 1 tail 4;", 0);
+            asked(x, ask(0, 1, 0), ask(9, 2, 0));
+            Check.due("a", x.together(0), 2 * 10 + 3 * (3 + 4));
+            Check.due("b", x.together(1), 2 * 300 + 7 * (5 + 6));
         });
         Check.edge("promise 26: the latest RUN stays", () -> {
             SipMeter x = Check.with(PART + "use a 1;", 1);

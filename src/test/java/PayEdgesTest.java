@@ -14,11 +14,13 @@ public final class PayEdgesTest {
     public static void main(String[] args) {
         nobody();
         byLast();
+        byLastInRounds();
         inParts();
         payRefused();
         lines();
         turnsOfFew();
         turnsOfHolds();
+        turnsOfParts();
         turnsOfMany();
         turnsRefused();
         wasted();
@@ -89,6 +91,30 @@ public final class PayEdgesTest {
             pays(x, 0, 3 + 20 + 3, 1);
         });
         Check.edge("III: a use of no TICKS of what is held counts", () -> pays(ran(BARE + "hold a;use a 0;wait 0;"), 0, 1 + 3, 1 + 3, 1));
+    }
+
+    private static void byLastInRounds() {
+        Check.edge("III: a LINE that is the last one again and again pays for all", () -> {
+            SipMeter x = ran(PART + "var v;while v < 3 { use a 1; wait 9; set v = v+1; }");
+            // a round: its own TICK, WAKE, work, TAIL
+            Check.due("RULE 0", x.pays(1, 0), 3 * (4 + 20 + 20 + 9));
+            Check.due("RULE 1", x.pays(1, 1), 3 * (4 + 20 + 20 + 9));
+        });
+        Check.edge("III: of more than one PART", () -> {
+            SipMeter x = ran(PART + "part b sleep 0 wake 0 0 on 5 work 7 tail 1;var v;while v < 2 { use a 1; use b 1; wait 9; set v = v+1; }");
+            // a round: use b's own and work are two of a's TAIL TICKS
+            Check.due("a's", x.pays(1, 0), 2 * (4 + 20 + 20 + 9));
+            Check.due("b's", x.pays(2, 0), 2 * (2 + 7 + 5));
+        });
+        Check.edge("III: nobody, of six PARTS", () -> {
+            StringBuilder parts = new StringBuilder();
+            for (int i = 0; i < 6; i++) {
+                parts.append("part ").append((char) ('a' + i)).append(" sleep ").append(1 << i).append(" wake 0 0 on 0 work 0 tail 0;");
+            }
+            SipMeter x = ran(parts + "use f 3;");
+            Check.due("nobody", x.pays(-1, 0), 31 * 4 + 32);
+            Check.due("nobody", x.pays(-1, 1), 31 * 4 + 32);
+        });
     }
 
     private static void inParts() {
@@ -168,6 +194,15 @@ public final class PayEdgesTest {
             Check.due("run", x.run(-1), WHOLE);
             pays(x, 0, 10);
             pays(x, 1, 10);
+        });
+        Check.edge("promise 13: a RUN of fewer STRETCHES pays anew", () -> {
+            SipMeter x = Check.with(BARE + "input n 0 1;if n = 0 { hold a; free a; hold a; free a; } hold a;free a;", 7);
+            Check.due("run", x.run(-1), WHOLE);
+            pays(x, 1, 1, 3, 2, 3, 2, 3, 2);
+            Check.due("put", x.put(0, 1), true);
+            Check.due("run", x.run(-1), WHOLE);
+            pays(x, 1, 1, 0, 0, 0, 0, 3, 2);
+            pays(x, 0, 1, 0, 0, 0, 0, 4, 1);
         });
     }
 
@@ -283,6 +318,42 @@ public final class PayEdgesTest {
         });
     }
 
+    private static void turnsOfParts() {
+        String two = PART + "part b sleep 0 wake 1 100 on 7 work 1 tail 1;";
+        Check.edge("III: by the PART's own numbers", () -> {
+            SipMeter x = ran(two + "use b 2;");
+            Check.due("b's", x.byTurns(1, 0, 0, true), 3 * 7 + 100);
+            none(x, 0, 0, 0);
+        });
+        Check.edge("III: two PARTS at a time leave one another be", () -> {
+            // a: WAKE 1 2, held 3 .. 9; b: own 3, WAKE 4, work 5 6, TAIL 7; own of wait 7, 8, own of free 9
+            SipMeter x = ran(two + "hold a;use b 2;wait 1;free a;");
+            turn(x, 0, 0, (7 + 3) * 3 + 20, 1);
+            turn(x, 0, 3, 0, 1);
+            none(x, 0, 0, 1);
+            Check.due("b's", x.byTurns(1, 0, 1, true), 3 * 7 + 100);
+            Check.due("b's", x.byTurns(1, 0, 1, false), 1);
+            none(x, 1, 0, 0);
+        });
+        Check.edge("III: a LINE of both PARTS", () -> {
+            SipMeter x = ran(two + "var v;while v < 2 { if v = 0 { use a 1; } else { use b 1; } set v = v+1; }");
+            turn(x, 0, 2, 4 * 3 + 20, 1);
+            Check.due("b's", x.byTurns(1, 0, 3, true), 2 * 7 + 100);
+        });
+        Check.edge("III: nothing of an earlier RUN", () -> {
+            SipMeter x = Check.with(PART + "input n 0 1;if n = 0 { use a 9; } else { use a 1; } use a 1;", 4);
+            Check.due("run", x.run(-1), WHOLE);
+            // WAKE 2 3, work 4 .. 12, own 13, work 14, TAIL 15 16 17: alone 12 and 4 TICKS, both 14
+            turn(x, 0, 1, ((36 + 20) + (42 + 20) - (12 + 20)) / 2, 1);
+            Check.due("put", x.put(0, 1), true);
+            Check.due("run", x.run(-1), WHOLE);
+            // WAKE 2 3, work 4, own 5, work 6, TAIL 7 8 9: 4 TICKS each, both 6
+            turn(x, 0, 2, (18 + 20) / 2, 1);
+            turn(x, 0, 3, (18 + 20) / 2, 1);
+            none(x, 0, 0, 1);
+        });
+    }
+
     private static void turnsOfMany() {
         String part = "part a sleep 0 wake 0 0 on 840 work 1 tail 1;";
         Check.edge("III: 8 LINES", () -> {
@@ -395,6 +466,13 @@ public final class PayEdgesTest {
         Check.edge("III: a STRETCH that is cut off in its TAIL", () -> wasted(ran(PART + "use a 1;wait 9;", 45 + 11, EMPTY), 0, 0));
         Check.edge("III: a STRETCH that is cut off at work", () -> wasted(ran(PART + "use a 9;", 66, EMPTY), 0));
         Check.edge("III: a STRETCH that is cut off in its WAKE", () -> wasted(ran(PART + "use a 9;", 13, EMPTY), 0));
+        Check.edge("III: a STRETCH that is cut off in a hold's WAKE", () -> wasted(ran(PART + "hold a;", 13, EMPTY), 0));
+        Check.edge("III: a STRETCH that is cut off in its second WAKE", () -> {
+            // use 0 .. 3, TAIL 4 5 6: own of wait and one more, own of the hold; its WAKE 7 is cut at 8
+            wasted(ran(PART + "use a 1;wait 1;hold a;", 45 + 12 + 11, EMPTY), 0, 0, 0);
+            wasted(ran(PART + "use a 1;wait 1;use a 5;", 45 + 12 + 11, EMPTY), 0, 0, 0);
+        });
+        Check.edge("III: a hold that is cut off at once when TAIL is gone", () -> wasted(ran(PART + "use a 1;wait 1;hold a;", 45 + 12, EMPTY), 9, 0, 0));
         Check.edge("III: a STRETCH that is held at the end", () -> wasted(ran(PART + "use a 1;hold a;wait 9;"), 0, 0, 0));
         Check.edge("III: a STRETCH that goes on with a WAKE", () -> wasted(ran(PART + "use a 1;wait 1;use a 0;"), 0, 0, 9));
         Check.edge("III: a PART that was never used", () -> wasted(ran(PART + "wait 9;"), 0));

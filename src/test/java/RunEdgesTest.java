@@ -264,6 +264,18 @@ public final class RunEdgesTest {
             Check.due("own", ran("if all or all and not all { wait 0; }").ran(4), 2);
             Check.due("own", ran("if [all or all] and not all { wait 0; }").ran(4), 1);
         });
+        Check.edge("II: all ways FACTS may be joined", () -> {
+            String[] facts = {"all", "not all", "1 < 2", "2 < 1", "2 > 1", "1 > 2", "1 = 1", "1 = 2", "not 2 < 1", "not 1 = 1", "[all]", "not [1 > 2]",
+                "held a", "not held a"};
+            boolean[] holds = {true, false, true, false, true, false, true, false, true, false, true, true, false, true};
+            for (int i = 0; i < facts.length; i++) {
+                for (int j = 0; j < facts.length; j++) {
+                    SipMeter x = ran(PART + "if " + facts[i] + " and " + facts[j] + " { wait 0; } if " + facts[i] + " or " + facts[j] + " { wait 1; }");
+                    int ticks = 2 + (holds[i] && holds[j] ? 1 : 0) + (holds[i] || holds[j] ? 2 : 0);
+                    Check.due(facts[i] + " joined with " + facts[j], x.ran(0), ticks);
+                }
+            }
+        });
         Check.edge("II: eight whiles inside one another", () -> {
             SipMeter x = ran("while tick < 9 {".repeat(8) + "}".repeat(8));
             Check.due("own", x.ran(4), 8 + 2 + 7 - 1);
@@ -345,6 +357,25 @@ public final class RunEdgesTest {
         Check.edge("II: EMPTY while it is ON", () -> purse(PART + "use a 1;wait 0;", 48, EMPTY, 45, 4));
         Check.edge("II: just enough while it is ON", () -> purse(PART + "use a 1;wait 0;", 49, WHOLE, 49 + 6, 7));
         Check.edge("II: EMPTY in a MISS", () -> purse("cache 1 1 5;touch 1;", 3, EMPTY, 3, 3));
+        Check.edge("II: each of six PARTS empties it", () -> {
+            StringBuilder parts = new StringBuilder("heart 0;");
+            for (int i = 0; i < 6; i++) {
+                parts.append("part ").append((char) ('a' + i)).append(" sleep ").append(1 << i).append(" wake 0 0 on 0 work 0 tail 0;");
+            }
+            // 1 + 2 + 4 .. + 32 in a TICK
+            purse(parts + "wait 1;", 125, EMPTY, 63, 1);
+            purse(parts + "wait 1;", 126, WHOLE, 126, 2);
+        });
+        Check.edge("II: another PART that is at work, waking, ON empties it by its own numbers", () -> {
+            String two = "heart 0;part a sleep 1 wake 1 2 on 3 work 4 tail 5;part b sleep 10 wake 1 20 on 30 work 40 tail 1;";
+            // own 11, WAKE 21, work 41, own of wait 31
+            purse(two + "use b 1;wait 0;", 11 + 21 + 41 + 30, EMPTY, 73, 3);
+            purse(two + "use b 1;wait 0;", 11 + 21 + 41 + 31, WHOLE, 104, 4);
+            // own 11, WAKE 12, work 14, own of use b 13, WAKE 23
+            purse(two + "use a 1;use b 0;", 11 + 12 + 14 + 13 + 22, EMPTY, 50, 4);
+            // TAIL of a 5 has 3 left: a is ON in them, b in 1 of them
+            purse(two + "use a 1;use b 0;", 11 + 12 + 14 + 13 + 23, WHOLE, 73 + 33 + 13 + 13, 8);
+        });
         Check.edge("II: the LINE at which it was EMPTY", () -> {
             SipMeter x = Check.with("wait 1;wait 1;wait 1;", 3);
             int[] lines = {0, 0, 1, 1, 2, 2, -1};

@@ -16,6 +16,7 @@ public final class TextEdgesTest {
         ends();
         texts();
         whatGoes();
+        manyTexts();
         faults();
         counts();
         letters();
@@ -300,6 +301,79 @@ public final class TextEdgesTest {
             Check.due("run", x.run(-1), 0);
             Check.due("sips", x.ran(1), 2);
             Check.due("MISSES", x.ran(2), 2);
+        });
+    }
+
+    private static void again(SipMeter x, String text, int lines) {
+        Check.due("text() of " + text, Check.text(x, text), lines);
+    }
+
+    /** What a text leaves behind might show but two or more texts later. */
+    private static void manyTexts() {
+        Check.edge("promise 4: a third text has nothing of the first one", () -> {
+            SipMeter x = new SipMeter();
+            again(x, "heart 9;cache 8 8 20;" + SIX_PARTS + THREE_INPUTS + SIX_VARS + "hold a;touch 1;touch 2;touch 3;", 4);
+            Check.due("never", x.never(), 1);
+            again(x, "", 0);
+            again(x, "part a" + PART + "touch 1;touch 2;hold a;free a;", 4);
+            Check.due("never", x.never(), 0);
+            int[] many = {1, 0, 0, 4, 0, 0};
+            for (int what = 0; what < 6; what++) {
+                Check.due("has(" + what + ")", x.has(what), many[what]);
+            }
+            Check.due("run", x.run(-1), 0);
+            Check.due("MISSES", x.ran(2), 2);
+            // touch 0, touch 1, hold 2, WAKE 3 4, free 5, TAIL 6 .. 11
+            Check.due("TICKS", x.ran(0), 12);
+            Check.due("sips", x.ran(1), 6 + 3 + 6 + 4 + 24);
+        });
+        Check.edge("promise 4: a NAME of the first text is free in the third", () -> {
+            SipMeter x = new SipMeter();
+            again(x, "var a;var b;", 0);
+            again(x, "var c;", 0);
+            again(x, "var b;input a 0 1;", 0);
+            Check.due("b", x.letter(2, 0, 0), 'b');
+            Check.due("a", x.letter(1, 0, 0), 'a');
+        });
+        Check.edge("promise 4: a NAME of a text that was refused is free in the next", () -> {
+            SipMeter x = new SipMeter();
+            again(x, "var a;var b;var b;", -1);
+            again(x, "var a;var b;", 0);
+            again(x, "set a = 1;", -1);
+            Check.due("its FAULT", x.fault(0), 3);
+        });
+        Check.edge("promise 4: texts of many SUMS, one behind another", () -> {
+            SipMeter x = new SipMeter();
+            for (int i = 0; i < 9; i++) {
+                again(x, "var v;set v = " + "1+".repeat(400) + i + ";", 1);
+                Check.due("run", x.run(-1), 0);
+                Check.due("value", x.value(0), 400 + i);
+            }
+        });
+        Check.edge("promise 4: what a refused text left open is shut in the next", () -> {
+            SipMeter x = new SipMeter();
+            for (int i = 0; i < 3; i++) {
+                again(x, "wait((((((((", -1);
+                again(x, "if all {".repeat(8), -1);
+                again(x, "wait((((((((1))))))));", 1);
+                again(x, "if all {".repeat(8) + "}".repeat(8), 8);
+            }
+        });
+        Check.edge("promise 4: 60 LINES behind 60 LINES that were refused", () -> {
+            SipMeter x = new SipMeter();
+            again(x, "wait 1;".repeat(60) + "wait 1;", -1);
+            Check.due("FAULT", x.fault(0), 5);
+            again(x, "wait 1;".repeat(60), 60);
+        });
+        Check.edge("promise 4: a text that was refused leaves an earlier one whole", () -> {
+            SipMeter x = new SipMeter();
+            again(x, "part a" + PART + "hold a;wait 3;", 2);
+            again(x, "part b sleep 9 wake 9 9 on 9 work 9 tail 9;heart 9;use b 9;free b;wait", -1);
+            Check.due("run", x.run(-1), 0);
+            Check.due("TICKS", x.ran(0), 7);
+            Check.due("sips", x.ran(1), 7 + 1 + 6 + 16);
+            Check.due("its NAME", x.letter(0, 0, 0), 'a');
+            Check.due("never", x.never(), 1);
         });
     }
 
@@ -698,6 +772,16 @@ public final class TextEdgesTest {
                 }
             });
         }
+        Check.edge("I: a NUMBER, a sign or an OWN WORD where a NAME must be", () -> {
+            for (String wrong : new String[] {"5", "(1)", "tick", "min(1,2)", ";", "all"}) {
+                for (String order : new String[] {"use @?;", "use @? 1;", "hold @?;", "free @?;", "set @? = 1;", "if held @? {}", "if held @? < 9 {}"}) {
+                    Check.refused(1, DECLARED + order.replace("?", wrong));
+                }
+                Check.refused(1, "var @" + wrong + ";");
+                Check.refused(1, "input @" + wrong + " 0 1;");
+                Check.refused(1, "part @" + wrong + PART);
+            }
+        });
         Check.edge("I: neither INPUT nor VAR in a SUM", () -> {
             Check.refused(3, DECLARED + "wait @p;");
             Check.refused(3, DECLARED + "wait n+v*@q;");
