@@ -35,7 +35,7 @@ final class Texts {
         if (upTo(2) > 0) {
             say("cache", 1 + upTo(7), 1 + upTo(7), upTo(3) == 0 ? 20 : upTo(4), ";");
         }
-        parts = 1 + upTo(2);
+        parts = upTo(9) == 0 ? 4 + upTo(2) : 1 + upTo(2);
         for (int i = 0; i < parts; i++) {
             int tail = upTo(3) == 0 ? 0 : upTo(4) == 0 ? 50 : upTo(9);
             int wakes = upTo(3) == 0 ? 0 : upTo(5);
@@ -46,7 +46,7 @@ final class Texts {
             int least = upTo(5);
             say("input", name("n", i), least, least + upTo(6), ";");
         }
-        vars = upTo(2);
+        vars = upTo(9) == 0 ? 6 : upTo(2);
         for (int i = 0; i < vars; i++) {
             say("var", name("v", i), ";");
         }
